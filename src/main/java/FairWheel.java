@@ -992,7 +992,6 @@ public final class FairWheel {
         }
 
         private void end(Task t, int fault) {
-            t.wake();
             t.state = ENDED;
             t.fault = fault;
             for (int l = 0; l < MAX_LOCKS; l++) {

@@ -287,7 +287,8 @@ public final class CallsTest {
     /** 1,000 calls are beyond what an object is used for, but the limit stands in the document. */
     private static void notes() {
         FairWheel x = new FairWheel();
-        for (int i = 0; i < 1000; i++) {
+        x.task(1, 0, 9);
+        for (int i = 1; i < 1000; i++) {
             x.run(0);
         }
         DUE.is("23 notes", 1000, x.count(7));
@@ -299,7 +300,14 @@ public final class CallsTest {
         DUE.refused("23 ring", -1, 5, x, x.ring(2));
         DUE.is("23 lock", false, x.lock(2));
         DUE.is("23 status", 5, x.status());
-        DUE.is("23 nothing was done", 0, x.count(0) + x.count(1));
+        DUE.refused("23 share", -1, 5, x, x.share(0, 8));
+        DUE.is("23 deadline", false, x.deadline(0, 50, 8));
+        DUE.is("23 status", 5, x.status());
+        DUE.is("23 nothing was done", 0, x.count(0));
+        DUE.is("23 no task", 1, x.count(1));
+        DUE.is("23 no share", 9, x.about(0, 2));
+        DUE.is("23 no period", 100, x.about(0, 10));
+        DUE.is("23 one processor", 1, x.count(5));
         DUE.is("23 no lock", -2, x.holder(2));
     }
 

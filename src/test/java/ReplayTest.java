@@ -11,7 +11,9 @@ public final class ReplayTest {
         boundIsKept();
         counts();
         image();
+        imageOfTasks();
         imageOfRings();
+        checkBeginsAnew();
         loadAndGoOn();
         digest();
         DUE.end();
@@ -248,6 +250,81 @@ public final class ReplayTest {
         DUE.is("25 as it was", kept, x.digest());
     }
 
+    /** Tasks in every state come back, and what comes behind is new in all its numbers. */
+    private static void imageOfTasks() {
+        FairWheel x = new FairWheel();
+        x.lock(0);
+        Due.write(x, 0, 2, 0, 6, 100, 0);
+        Due.write(x, 1, 8, 0, 2, 0, 0);
+        Due.write(x, 2, 4, 9, 0);
+        Due.write(x, 3, 11, 1);
+        Due.write(x, 4, 8, 3, 6, 2, 9, 2, 6, 100, 0);
+        Due.write(x, 5, 8, 3, 1, 100);
+        x.processors(4);
+        for (int t = 0; t < 5; t++) {
+            x.task(2, t, 7 + t);
+            x.deadline(t, 50 + t, 3 + t);
+        }
+        x.run(4);
+        int[] states = {3, 1, 2, 4, 3};
+        for (int t = 0; t < 5; t++) {
+            DUE.is("11 state", states[t], x.about(t, 6));
+        }
+        int[][] was = new int[5][15];
+        for (int t = 0; t < 5; t++) {
+            for (int what = 0; what < 15; what++) {
+                was[t][what] = x.about(t, what);
+            }
+        }
+        x.image();
+        x.ring(9);
+        x.run(300);
+        for (int p = 0; p < 5; p++) {
+            x.task(2, p, 5);
+        }
+        x.run(3);
+        x.load();
+        for (int t = 0; t < 5; t++) {
+            for (int what = 0; what < 15; what++) {
+                DUE.is("25 about " + t + " " + what, was[t][what], x.about(t, what));
+            }
+        }
+        DUE.is("25 short, of the tick in which it woke", 3, x.small(4, 2));
+        int[] anew = {0, 5, 5, 0, 0, 0, 0, -1, -1, 0, -1, -1, -1, -1, -1};
+        for (int t = 5; t < 10; t++) {
+            x.task(0, 5, 5);
+            for (int what = 0; what < 15; what++) {
+                DUE.is("3 a new one " + what, anew[what], x.about(t, what));
+            }
+        }
+        x.processors(4);
+        x.run(9);
+        for (int t = 5; t < 10; t++) {
+            DUE.is("13 its row is all 0", 0, x.small(t, 2));
+        }
+        DUE.is("19 check", -1, x.check());
+    }
+
+    /** What the replay told itself in one check is gone in the next one. */
+    private static void checkBeginsAnew() {
+        FairWheel x = new FairWheel();
+        Due.write(x, 0, 1, 100, 2, 5, 1, 100, 0);
+        x.task(0, 0, 1);
+        x.task(0, 0, 1);
+        x.image();
+        x.run(5);
+        x.processors(4);
+        x.lock(5);
+        x.run(150);
+        DUE.is("19 check", -1, x.check());
+        DUE.is("19 once more", -1, x.check());
+        x.load();
+        x.run(300);
+        DUE.is("11 no lock", 7, x.about(0, 9));
+        DUE.is("19 without the lock", -1, x.check());
+        DUE.is("20 at its end", 300, x.checkedTo());
+    }
+
     private static void imageOfRings() {
         FairWheel x = new FairWheel();
         x.lock(0);
@@ -270,6 +347,16 @@ public final class ReplayTest {
         DUE.is("20 of the latest check", 10, x.checkedTo());
         x.run(9);
         DUE.is("16 the ring again", 1, x.ringed(0));
+        DUE.is("23 one", 1, x.count(6));
+        x.image();
+        x.task(0, 0, 1);
+        x.task(0, 1, 1);
+        x.run(9);
+        DUE.is("16 another ring", 3, x.ringed(0));
+        DUE.is("23 two", 2, x.count(6));
+        x.load();
+        DUE.is("25 the ring of the image", 1, x.ringed(0));
+        DUE.is("25 the ring of the image", 0, x.ringed(1));
         DUE.is("23 one", 1, x.count(6));
     }
 

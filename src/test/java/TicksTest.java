@@ -18,6 +18,9 @@ public final class TicksTest {
         lending();
         lendingFar();
         leftLocks();
+        lateStanding(0);
+        lateStanding(3);
+        claims();
         rings();
         bodies();
         wrongQuestions();
@@ -526,6 +529,46 @@ public final class TicksTest {
         DUE.is("15 not there", -2, x.holder(-1));
         DUE.is("15 not there", -2, x.holder(100));
         DUE.is("19 check", -1, x.check());
+    }
+
+    /** Who begins to wait in the very tick in which the lock goes on stands there by what it has paid by then. */
+    private static void lateStanding(int givesOrEnds) {
+        FairWheel x = new FairWheel();
+        x.lock(0);
+        Due.write(x, 0, 2, 0, 1, 1, givesOrEnds, 0, 1, 9, 0);
+        Due.write(x, 1, 2, 0, 1, 9, 0);
+        x.task(0, 0, 10);
+        x.task(0, 1, 2);
+        x.task(0, 1, 1);
+        x.processors(2);
+        x.run(1);
+        DUE.is("11 one waits", 0, x.about(1, 7));
+        DUE.is("14 it stands by what it paid", 500, x.standing(1, 1));
+        x.run(1);
+        DUE.is("10 the other goes first", 2, x.chosen(0));
+        DUE.is("10 then the holder", 0, x.chosen(1));
+        DUE.is("11 the other waits", 0, x.about(2, 7));
+        DUE.is("12 it paid", 1000, x.virtual(2));
+        DUE.is("15 the lock went to who stands foremost then", 1, x.holder(0));
+    }
+
+    private static void claims() {
+        int[] left = {-1, 1, 2, -1, -1};
+        for (int kind = 0; kind < 5; kind++) {
+            FairWheel x = with(kind, 1, 10, 0, 10, 1, 10, 2, 0);
+            x.run(1);
+            DUE.is("11 what is left of kind " + kind, left[kind], x.about(0, 13));
+        }
+        FairWheel x = with(1, 1, 10, 1, 10, 1, 10, 1, 1, 9, 0);
+        x.deadline(0, 50, 1);
+        x.run(1);
+        DUE.is("11 it may be above the budget", 3, x.about(0, 13));
+        DUE.is("11 the budget stays", 1, x.about(0, 11));
+        DUE.is("12 and spends it", 0, x.virtual(0));
+        x.run(3);
+        DUE.is("12 and spends it", 0, x.virtual(0));
+        x.run(1);
+        DUE.is("12 then it pays", 1000, x.virtual(0));
     }
 
     /** 0 takes 0 and wants 1; 1 takes 1 and wants 2; 2 takes 2 and wants 0. */
