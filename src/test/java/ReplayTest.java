@@ -282,7 +282,8 @@ public final class ReplayTest {
         for (int p = 0; p < 5; p++) {
             x.task(2, p, 5);
         }
-        x.run(3);
+        x.run(20);
+        DUE.is("13 a row that another task gets later", true, x.small(9, 2) != 0);
         x.load();
         for (int t = 0; t < 5; t++) {
             for (int what = 0; what < 15; what++) {
