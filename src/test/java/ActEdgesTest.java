@@ -160,6 +160,8 @@ public final class ActEdgesTest {
         }
         for (int n : new int[] {0, -1, -127, -128}) {
             fault(0, 2, 0, 1, n, 0);
+            DUE.is("no work of " + n, 0, done(0, 1, n, 0).about(0, 4));
+            DUE.is("no work of " + n, 0, done(0, 1, n, 6, 9).about(0, 4));
         }
     }
 
@@ -299,9 +301,9 @@ public final class ActEdgesTest {
         fine(0, 8, 127);
     }
 
-    /** A TASK that waits for bell 0 and then keeps the clock in its row of two. */
-    private static FairWheel keptAt(int clock) {
-        FairWheel x = Due.one(0, 1, 4, 0, 8, 2, 9, 1, 12, 1, 1, 5, 0);
+    /** A TASK that waits for bell 0, keeps the clock in its row of two, works by it, and then does one act more. */
+    private static FairWheel keptAt(int clock, int act) {
+        FairWheel x = Due.one(0, 1, 4, 0, 8, 2, 9, 1, 12, 1, act, 5, 0);
         for (int left = clock; left > 0; left -= Math.min(left, 1000)) {
             x.run(Math.min(left, 1000));
         }
@@ -315,7 +317,7 @@ public final class ActEdgesTest {
         int[] clocks = {1, 32766, 32767, 32768, 65535, 65536, 65537};
         int[] shorts = {1, 32766, 32767, -32768, -1, 0, 1};
         for (int i = 0; i < clocks.length; i++) {
-            FairWheel x = keptAt(clocks[i]);
+            FairWheel x = keptAt(clocks[i], 1);
             DUE.is("at " + clocks[i], shorts[i], x.small(0, 1));
             DUE.is("the other at " + clocks[i], 0, x.small(0, 0));
             DUE.is("behind the row", 0, x.small(0, 2));
@@ -364,9 +366,14 @@ public final class ActEdgesTest {
         int[] work = {0, 32766, 4, 4, 0};
         int[] places = {8, 8, 10, 10, 8};
         for (int i = 0; i < clocks.length; i++) {
-            FairWheel x = keptAt(clocks[i]);
+            FairWheel x = keptAt(clocks[i], 1);
             DUE.is("work at " + clocks[i], work[i], x.about(0, 4));
             DUE.is("place at " + clocks[i], places[i], x.about(0, 5));
+        }
+        for (int clock : new int[] {32768, 65535, 65536}) {
+            FairWheel x = keptAt(clock, 6);
+            DUE.is("no work at " + clock, 0, x.about(0, 4));
+            DUE.is("but the next act at " + clock, clock + 5, x.about(0, 8));
         }
         fine(0, 8, 1, 12, 0);
         FairWheel y = Due.one(0, 1, 1, 9, 8, 2, 9, 1, 12, 0, 12, 1, 0);

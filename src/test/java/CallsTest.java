@@ -13,7 +13,6 @@ public final class CallsTest {
         lock();
         ring();
         status();
-        notes();
         DUE.end();
     }
 
@@ -282,33 +281,6 @@ public final class CallsTest {
         DUE.is("27 run", 1, x.status());
         x.run(0);
         DUE.is("27 run of none", 0, x.status());
-    }
-
-    /** 1,000 calls are beyond what an object is used for, but the limit stands in the document. */
-    private static void notes() {
-        FairWheel x = new FairWheel();
-        x.task(1, 0, 9);
-        for (int i = 1; i < 1000; i++) {
-            x.run(0);
-        }
-        DUE.is("23 notes", 1000, x.count(7));
-        DUE.refused("23 one more run", -1, 5, x, x.run(1));
-        DUE.refused("23 wrong ahead of notes", -1, 1, x, x.run(-1));
-        DUE.refused("23 task", -1, 5, x, x.task(0, 0, 1));
-        DUE.refused("23 program", -1, 5, x, x.program(0, 0, 1));
-        DUE.refused("23 processors", -1, 5, x, x.processors(2));
-        DUE.refused("23 ring", -1, 5, x, x.ring(2));
-        DUE.is("23 lock", false, x.lock(2));
-        DUE.is("23 status", 5, x.status());
-        DUE.refused("23 share", -1, 5, x, x.share(0, 8));
-        DUE.is("23 deadline", false, x.deadline(0, 50, 8));
-        DUE.is("23 status", 5, x.status());
-        DUE.is("23 nothing was done", 0, x.count(0));
-        DUE.is("23 no task", 1, x.count(1));
-        DUE.is("23 no share", 9, x.about(0, 2));
-        DUE.is("23 no period", 100, x.about(0, 10));
-        DUE.is("23 one processor", 1, x.count(5));
-        DUE.is("23 no lock", -2, x.holder(2));
     }
 
     private CallsTest() {

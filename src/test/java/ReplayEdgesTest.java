@@ -360,15 +360,14 @@ public final class ReplayEdgesTest {
         return x;
     }
 
+    /** Who is chosen pays, or spends; none is refilled meanwhile. */
     private static boolean chosenWithin(FairWheel x, int t, int ticks) {
-        int from = x.count(4);
+        long paid = x.virtual(t);
+        int left = x.about(t, 13);
+        int refilled = x.trace(9);
         x.run(ticks);
-        for (int k = from; k < x.count(4); k++) {
-            if (x.row(k, 2) == t) {
-                return true;
-            }
-        }
-        return false;
+        DUE.is("none is refilled", refilled, x.trace(9));
+        return x.virtual(t) > paid || x.about(t, 13) < left;
     }
 
     private static void boundIsKept() {
@@ -400,7 +399,7 @@ public final class ReplayEdgesTest {
             x.task(0, 0, 1);
             x.run(1);
             for (int t = 1; t < 9; t++) {
-                x.task(t % 5, t % 3, 50);
+                x.task(t < 3 ? 0 : t < 6 ? 3 : 4, t % 3, 50);
                 x.share(t, 30);
             }
             x.task(0, 0, 1);
@@ -876,9 +875,8 @@ public final class ReplayEdgesTest {
         DUE.is("check", -1, x.check());
     }
 
-    /** TASKS in each state, with rows, locks, rings and traces: all that can be asked is asked before and behind. */
-    private static void imageKeepsAll() {
-        DUE.sentence("the whole kernel, its ROWS and notes");
+    /** TASKS in each state, with rows of short numbers, locks held and a ring. */
+    private static FairWheel mixed() {
         FairWheel x = new FairWheel();
         x.lock(0);
         x.lock(99);
@@ -893,55 +891,69 @@ public final class ReplayEdgesTest {
         x.deadline(1, 7, 2);
         x.deadline(6, 5, 5);
         x.run(14);
-        List<Long> before = asked(x);
-        x.image();
+        return x;
+    }
+
+    private static void imageKeepsAll() {
+        DUE.sentence("the whole kernel, its ROWS and notes");
+        FairWheel plain = mixed();
         int states = 0;
         for (int t = 0; t < 12; t++) {
-            states |= 1 << x.about(t, 6);
+            states |= 1 << plain.about(t, 6);
         }
         DUE.is("every state is there", 31, states);
-        DUE.is("a ring is there", true, x.count(6) > 0);
-        x.ring(7);
-        x.processors(1);
-        x.deadline(2, 77, 66);
-        x.share(2, 55);
-        x.run(500);
-        x.lock(50);
-        x.task(0, 0, 1);
-        x.forge(0, 0, 1);
-        x.load();
-        List<Long> behind = asked(x);
-        DUE.is("as many", before.size(), behind.size());
-        for (int i = 0; i < before.size(); i++) {
-            DUE.is("answer " + i, before.get(i), behind.get(i));
+        DUE.is("a ring is there", true, plain.count(6) > 0);
+        for (int part = 0; part < 3; part++) {
+            FairWheel x = mixed();
+            x.image();
+            x.ring(7);
+            x.processors(1);
+            x.deadline(2, 77, 66);
+            x.share(2, 55);
+            x.run(500);
+            x.lock(50);
+            x.task(0, 0, 1);
+            x.forge(0, 0, 1);
+            x.load();
+            List<Long> due = asked(mixed(), part);
+            List<Long> got = asked(x, part);
+            DUE.is("as many answers", due.size(), got.size());
+            for (int i = 0; i < due.size(); i++) {
+                DUE.is("answer " + i + " of part " + part, due.get(i), got.get(i));
+            }
         }
     }
 
-    private static List<Long> asked(FairWheel x) {
+    /** All that can be asked, in three parts, so that none goes beyond the calls of an object. */
+    private static List<Long> asked(FairWheel x, int part) {
         List<Long> all = new ArrayList<>();
-        for (int what = 0; what < 12; what++) {
-            all.add((long) x.count(what));
-            all.add((long) x.trace(what));
-            all.add((long) x.ringed(what));
-            all.add((long) x.chosen(what));
+        for (int i = 0; part == 0 && i < 100; i++) {
+            all.add((long) x.holder(i));
+            all.add((long) x.count(i));
+            all.add((long) x.trace(i));
         }
-        for (int t = 0; t <= x.count(1); t++) {
+        for (int i = 0; part == 0 && i < 14; i++) {
+            all.add((long) x.ringed(i));
+            all.add((long) x.chosen(i));
+        }
+        int tasks = part == 1 ? x.count(1) : -1;
+        for (int t = 0; t <= tasks; t++) {
             for (int what = 0; what < 15; what++) {
                 all.add((long) x.about(t, what));
             }
             for (int what = 0; what < 3; what++) {
                 all.add(x.standing(t, what));
             }
-            for (int i = 0; i < 127; i++) {
-                all.add((long) x.small(t, i));
-            }
             all.add(x.virtual(t));
             all.add(x.bound(t));
         }
-        for (int l = 0; l < 100; l++) {
-            all.add((long) x.holder(l));
+        for (int t = 0; part == 2 && t <= 12; t++) {
+            for (int i : new int[] {0, 1, 2, 125, 126}) {
+                all.add((long) x.small(t, i));
+            }
         }
-        for (int k = 0; k <= x.count(4); k++) {
+        int rows = part == 2 ? x.count(4) : -1;
+        for (int k = 0; k <= rows; k++) {
             for (int what = 0; what < 5; what++) {
                 all.add((long) x.row(k, what));
             }
@@ -1077,20 +1089,22 @@ public final class ReplayEdgesTest {
     private static void digestOfAll() {
         DUE.sentence("the clock, how many TASKS, processors; for each TASK about(t, 0) to about(t, 14), VIRTUAL, and its"
                 + " SHORT numbers; for each lock holder(l); ROWS' numbers in order; trace(0) to trace(11)");
-        FairWheel x = new FairWheel();
-        x.lock(3);
-        Due.write(x, 0, 8, 3, 9, 1, 2, 3, 6, 3, 9, 2, 3, 3, 0);
-        x.processors(3);
-        for (int kind = 0; kind < 5; kind++) {
-            x.task(kind, 0, 7 + kind);
+        for (int ticks = 0; ticks < 20; ticks += 3) {
+            FairWheel x = new FairWheel();
+            x.lock(3);
+            Due.write(x, 0, 8, 3, 9, 1, 2, 3, 6, 3, 9, 2, 3, 3, 0);
+            x.processors(3);
+            for (int kind = 0; kind < 5; kind++) {
+                x.task(kind, 0, 7 + kind);
+            }
+            x.run(ticks);
+            if (ticks > 9) {
+                x.forge(2, 4, Integer.MIN_VALUE);
+            }
+            long first = x.digest();
+            DUE.is("behind " + ticks, digestOf(x), first);
+            DUE.is("once more", first, x.digest());
         }
-        for (int ticks = 0; ticks < 30; ticks++) {
-            DUE.is("behind " + ticks, digestOf(x), x.digest());
-            x.run(1);
-        }
-        x.forge(2, 4, Integer.MIN_VALUE);
-        DUE.is("forged", digestOf(x), x.digest());
-        DUE.is("once more", digestOf(x), x.digest());
     }
 
     private static long digestOf(FairWheel x) {
